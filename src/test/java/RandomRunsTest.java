@@ -1,0 +1,3 @@
+final class RandomRunsTest {
+    static void run() { }
+}
