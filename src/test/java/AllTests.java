@@ -17,6 +17,7 @@ public final class AllTests {
         ChangeTest.run();
         UndoTest.run();
         OutputTest.run();
+        FullHouseTest.run();
         RandomRunsTest.run();
         if (!Check.finish()) {
             System.exit(1);

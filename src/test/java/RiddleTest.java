@@ -62,6 +62,13 @@ final class RiddleTest {
         VegetableBouncer y = Bouncers.loaded("bouncer 1 1;guest ann;riddle a 0;riddle b 2;riddle c 5;"
                 + "ask ann;answer ann a;pass 1;");
         Check.same("23: the difference has no sign", order(y, 0, 3), "102");
+        y.ask(0);
+        Bouncers.answer(y, 0, "b");
+        Check.same("23: level 2", order(y, 0, 3), "102");
+        y.setWarp(0, 1);
+        y.setWarp(1, 0);
+        y.setWarp(2, 4);
+        Check.same("23: level 2, warps 1, 0, 4", order(y, 0, 3), "021");
     }
 
     private static void hardestRiddle() {

@@ -8,10 +8,12 @@ final class SetupTextTest {
 
     static void run() {
         loadReplacesTheState();
+        eachLoadStartsAnew();
         loadKeepsTheRest();
         anErrorKeepsTheState();
         aLaterLoadClearsTheError();
         wrongForms();
+        textsThatEndTooEarly();
         numbersOutOfRange();
         namesTakenOrTooLong();
         unknownNames();
@@ -41,6 +43,38 @@ final class SetupTextTest {
         Bouncers.type(x, "bouncer 1 1;");
         Check.same("4: no guests", x.load(), 0);
         Check.noSuch("4: no guest", () -> x.levelOf(0));
+    }
+
+    private static void eachLoadStartsAnew() {
+        VegetableBouncer x = new VegetableBouncer();
+        Bouncers.type(x, "bouncer 9 90;riddle leek 0;riddle pea 9;guest ann;guest bob;guest cid;guest dan;"
+                + "door west 0 1 3;door east 0 0 3;ask ann;answer ann leek;ask bob;answer bob x;pass 3;ask dan;"
+                + "ask cid;answer cid leek;enter cid west;pass 60;");
+        Check.same("4: a text with all", x.load(), 4);
+        Check.same("4: someone was shown out", x.shownOut(), 1);
+        startsAnew(x);
+        Bouncers.type(x, "bouncer 9 90;riddle leek 0;guest ann;guest bob;door west 0 0 3;"
+                + "ask ann;answer ann leek;enter ann west;ask bob;answer bob leek;enter bob west;");
+        Check.same("4: a text with guests inside", x.load() + " " + x.insideOf(0), "2 2");
+        startsAnew(x);
+        Bouncers.type(x, "bouncer 2 5;riddle y 1;");
+        Check.same("4: no guests", x.load(), 0);
+        Check.noSuch("4: one riddle", () -> x.warpOf(1));
+        Check.noSuch("4: no door", () -> x.isOpen(0));
+    }
+
+    private static void startsAnew(VegetableBouncer x) {
+        Bouncers.type(x, "bouncer 2 5;guest u;guest v;guest w;guest x;riddle y 1;riddle z 2;door s 1 1 1;");
+        Check.same("4: a text without statements of guests", x.load(), 4);
+        for (int guest = 0; guest < 4; guest++) {
+            Check.same("4: guest " + guest, x.levelOf(guest) + " " + x.failuresOf(guest) + " " + x.waitLeft(guest) + " "
+                    + x.totalWait(guest) + " " + x.riddleOf(guest) + " " + x.tokenLeft(guest) + " " + x.doorOf(guest)
+                    + " " + x.rightAnswers(guest) + " " + x.wrongAnswers(guest), "0 0 0 0 -1 0 -1 0 0");
+        }
+        Check.same("4: riddles", x.askedTimes(0) + " " + x.solvedTimes(0) + " " + x.askedTimes(1) + " "
+                + x.solvedTimes(1), "0 0 0 0");
+        Check.same("4: minute and shown out", x.minute() + " " + x.shownOut(), "0 0");
+        Check.noSuch("4: one door", () -> x.isOpen(1));
     }
 
     private static void loadKeepsTheRest() {
@@ -162,6 +196,21 @@ final class SetupTextTest {
         errorBehind("#", 1, 0);
     }
 
+    private static void textsThatEndTooEarly() {
+        String text = "bouncer 9 90;riddle leek 0;guest ann;door west 0 1 3;ask ann;answer ann leek;enter ann west;"
+                + "leave ann;forgive ann;warp leek 9;hours west 5 6;pass 7;";
+        for (int end = 1; end <= text.length(); end++) {
+            boolean isBehindToken = text.charAt(end - 1) != ' '
+                    && (end == text.length() || text.charAt(end) == ' ' || text.charAt(end) == ';');
+            if (text.charAt(end - 1) == ';') {
+                fine(text.substring(0, end));
+            } else if (isBehindToken) {
+                error(text.substring(0, end), "1@" + end);
+                error(text.substring(0, end) + " \n", "1@" + (end + 2));
+            }
+        }
+    }
+
     private static void numbersOutOfRange() {
         error("bouncer 0 1;", "2@8");
         error("bouncer 31 1;", "2@8");
@@ -234,6 +283,7 @@ final class SetupTextTest {
         String doors = "door i 0 0 1;door j 0 0 1;door k 0 0 1;door l 0 0 1;";
         fine(B + doors);
         errorBehind(doors + "door m 0 0 1;", 5, 52);
+        errorBehind(doors + "hours m 0 0;", 4, 58);
         fine(B + riddles + guests + doors);
         Check.same("4: eight guests", loadOf(B + riddles + guests + doors), 8);
     }
