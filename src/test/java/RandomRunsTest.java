@@ -10,7 +10,7 @@ import java.util.Set;
 /** Promises 1 to 65: runs of the same calls on a VegetableBouncer and a SlowBouncer answer the same. */
 final class RandomRunsTest {
     private static final int RUNS = 400;
-    /** An object is used for at most 512 calls, and an action takes at most 34. */
+    /** An object is used for at most 512 calls, and an action takes at most 35. */
     private static final int CALLS = 478;
     private static final Set<String> CHANGES = Set.of("ask", "enter", "leave", "forgive", "setWarp", "setHours", "pass",
             "restore", "undo", "save");
@@ -80,9 +80,12 @@ final class RandomRunsTest {
     }
 
     private void answer() {
-        int guest = row.below(row.below(4) == 0 ? 9 : 3);
+        int guest = row.below(row.below(8) == 0 ? 9 : 3);
         type(row.below(5) < 3 ? slow.vegetableFor(guest) : WORDS[row.below(WORDS.length)]);
         call("answer", guest);
+        if (row.below(2) == 0) {
+            call("enter", guest, row.below(3));
+        }
     }
 
     private void type(String text) {
@@ -126,7 +129,7 @@ final class RandomRunsTest {
         if (name.equals("setHours")) {
             return row.below(3) == 0 ? row.below(24) : row.below(4);
         }
-        return row.below(3) == 0 ? row.below(13) - 1 : row.below(4);
+        return row.below(8) == 0 ? row.below(13) - 1 : row.below(3);
     }
 
     private void call(String name, Integer... arguments) {

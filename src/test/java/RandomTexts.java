@@ -13,7 +13,7 @@ final class RandomTexts {
     static String text(NumberRow row) {
         String text = "bouncer " + (1 + row.below(row.below(9) == 0 ? 33 : 6)) + " " + row.below(row.below(2) == 0
                 ? 1010 : 100) + ";";
-        int statements = row.below(45);
+        int statements = row.below(6) == 0 ? row.below(8) : 8 + row.below(40);
         boolean mayErr = row.below(3) == 0;
         for (int count = 0; count < statements; count++) {
             String longer = text + statement(row, count);
@@ -24,7 +24,8 @@ final class RandomTexts {
     }
 
     private static String statement(NumberRow row, int count) {
-        String statement = count < 10 ? founding(row) : row.below(6) == 0 ? founding(row) : acting(row);
+        boolean isFounding = count < 12 || row.below(6) == 0;
+        String statement = isFounding ? founding(row, count) : acting(row);
         if (row.below(30) == 0) {
             int cut = row.below(statement.length());
             statement = statement.substring(0, cut) + pick(row, FOREIGN) + statement.substring(cut);
@@ -32,14 +33,14 @@ final class RandomTexts {
         return statement.replace(" ", pick(row, BLANKS)) + ";" + (row.below(9) == 0 ? "\n" : "");
     }
 
-    private static String founding(NumberRow row) {
-        switch (row.below(3)) {
+    private static String founding(NumberRow row, int count) {
+        switch (row.below(2) == 0 ? row.below(3) : count % 3) {
             case 0:
-                return "riddle " + pick(row, VEGETABLES) + " " + row.below(11);
+                return "riddle " + pick(row, VEGETABLES) + " " + (row.below(3) == 0 ? row.below(11) : row.below(3));
             case 1:
                 return "guest " + pick(row, GUESTS);
             default:
-                return "door " + pick(row, DOORS) + " " + hour(row) + " " + hour(row) + " " + row.below(4);
+                return "door " + pick(row, DOORS) + " " + hour(row) + " " + hour(row) + " " + room(row);
         }
     }
 
@@ -53,7 +54,7 @@ final class RandomTexts {
             case 3:
             case 4:
             case 5:
-                return "answer " + guest + " " + pick(row, VEGETABLES);
+                return "answer " + guest + " " + VEGETABLES[row.below(row.below(2) == 0 ? VEGETABLES.length : 3)];
             case 6:
             case 7:
                 return "enter " + guest + " " + pick(row, DOORS);
@@ -70,6 +71,10 @@ final class RandomTexts {
 
     private static int hour(NumberRow row) {
         return row.below(3) == 0 ? row.below(25) : row.below(3);
+    }
+
+    private static int room(NumberRow row) {
+        return row.below(20) == 0 ? row.below(11) : 1 + row.below(2);
     }
 
     private static String pick(NumberRow row, String[] of) {
