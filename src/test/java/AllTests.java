@@ -18,6 +18,16 @@ public final class AllTests {
         UndoTest.run();
         OutputTest.run();
         FullHouseTest.run();
+        BufferEdgeTest.run();
+        TokenEdgeTest.run();
+        StatementEdgeTest.run();
+        NumberEdgeTest.run();
+        RangeEdgeTest.run();
+        AskEdgeTest.run();
+        DoorEdgeTest.run();
+        ForecastEdgeTest.run();
+        UndoEdgeTest.run();
+        CallLimitTest.run();
         RandomRunsTest.run();
         if (!Check.finish()) {
             System.exit(1);

@@ -2,9 +2,7 @@ import java.util.NoSuchElementException;
 
 /** Promises 9 to 64 with as many riddles, guests and doors as there can be. */
 final class FullHouseTest {
-    private static final String TEXT = "bouncer 2 9;riddle a 0;riddle b 0;riddle c 0;riddle d 0;riddle e 0;riddle f 0;"
-            + "riddle g 0;riddle h 0;riddle i 0;riddle j 0;guest a;guest b;guest c;guest d;guest e;guest f;guest g;"
-            + "guest h;door i 0 0 9;door j 0 0 9;door k 0 0 9;door l 0 0 9;";
+    private static final String TEXT = Houses.FULL;
 
     private FullHouseTest() {
     }

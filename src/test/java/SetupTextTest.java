@@ -1,6 +1,6 @@
 /** Promises 4 to 6: load, errorCode and errorOffset, with the statements and errors of the setup text. */
 final class SetupTextTest {
-    private static final String B = "bouncer 1 1;";
+    static final String B = Houses.EMPTY;
     private static final int AT = B.length();
 
     private SetupTextTest() {
@@ -122,16 +122,16 @@ final class SetupTextTest {
         Check.same("5: undo brings no error back", x.errorCode() + "@" + x.errorOffset(), "0@-1");
     }
 
-    private static void error(String text, String due) {
+    static void error(String text, String due) {
         Check.same("5, 6: \"" + text + "\"", Bouncers.errorOf(text), due);
     }
 
     /** The error of a text behind B, with the offset counted from there. */
-    private static void errorBehind(String text, int code, int offset) {
+    static void errorBehind(String text, int code, int offset) {
         error(B + text, code + "@" + (AT + offset));
     }
 
-    private static void fine(String text) {
+    static void fine(String text) {
         error(text, "ok");
     }
 
