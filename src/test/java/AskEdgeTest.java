@@ -26,7 +26,7 @@ final class AskEdgeTest {
         aNewTextStartsTheCountsAnew();
     }
 
-    /** "a level (0 at first ..), a number of failures (0 at first), a minute until which the guest waits (0 at first)" */
+    /** "a level (0 at first ..), a number of failures (0 at first), a minute until which .. (0 at first)" */
     private static void everythingIsZeroAtFirst() {
         VegetableBouncer x = Bouncers.loaded(Houses.FULL);
         for (int guest = 0; guest < 8; guest++) {

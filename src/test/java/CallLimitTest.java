@@ -155,7 +155,8 @@ final class CallLimitTest {
             Check.same("53: wrong", Bouncers.answer(y, 0, "b"), 1);
             Check.same("56: forgiven", y.forgive(0), 1);
         }
-        Check.same("19: wrong answers", y.wrongAnswers(0) + " " + y.hardestRiddle() + " " + y.rightShare(), "101 0 0.0");
+        Check.same("19: wrong answers", y.wrongAnswers(0) + " " + y.hardestRiddle() + " " + y.rightShare(),
+                "101 0 0.0");
     }
 
     private static void undosUpToTheLastCall() {

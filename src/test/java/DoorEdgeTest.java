@@ -20,16 +20,19 @@ final class DoorEdgeTest {
         setHoursShowsOut();
         bestDoor();
         passOneTo999Minutes();
+        passCountsTheTokens();
     }
 
     /** "The hour is the minute number divided by 60, rounded down, modulo 24." */
     private static void hourComesAfterSixtyMinutes() {
-        int[] minutes = {0, 1, 59, 60, 61, 119, 120, 1379, 1380, 1439, 1440, 1441, 1499, 1500, 2879, 2880, 50399, 50400};
+        int[] minutes = {0, 1, 59, 60, 61, 119, 120, 1379, 1380, 1439, 1440, 1441, 1499, 1500, 2879, 2880, 50399,
+            50400};
         int[] due = {0, 0, 0, 1, 1, 1, 2, 22, 23, 23, 0, 0, 0, 1, 23, 0, 23, 0};
         for (int index = 0; index < minutes.length; index++) {
             VegetableBouncer x = Bouncers.loaded("bouncer 1 1;");
             Houses.passMany(x, minutes[index]);
-            Check.same("7, 8: minute " + minutes[index], x.minute() + " " + x.hour(), minutes[index] + " " + due[index]);
+            Check.same("7, 8: minute " + minutes[index], x.minute() + " " + x.hour(),
+                    minutes[index] + " " + due[index]);
         }
     }
 
@@ -235,7 +238,7 @@ final class DoorEdgeTest {
         Check.same("17, 47: always open", x.doorOf(0) + " " + x.shownOut() + " " + x.insideAfter(1440), "0 0 1");
     }
 
-    /** "Then each token that expires in this minute is taken away, and each guest .. is shown out.", both in one minute. */
+    /** "Then each token that expires in this minute is taken away, and each guest .. is shown out.", both at once. */
     private static void aMinuteTakesTokensAndShowsOut() {
         VegetableBouncer x = Bouncers.loaded("bouncer 1 60;" + ALL
                 + "ask a;answer a beet;ask b;answer b beet;ask c;answer c beet;door w 0 1 9;door v 0 0 9;"
@@ -295,6 +298,26 @@ final class DoorEdgeTest {
         }
         for (int minutes : new int[] {0, -1, 1000, 1001, Integer.MIN_VALUE, Integer.MAX_VALUE}) {
             Unchanged.refusedArgument("59: pass(" + minutes + ")", Houses::busy, x -> x.pass(minutes));
+        }
+    }
+
+    /** "Returns the number of tokens that expired in these minutes.": none, some, all, and none that was given away. */
+    private static void passCountsTheTokens() {
+        int[] minutes = {1, 98, 99, 100, 999};
+        int[] due = {0, 0, 8, 8, 8};
+        for (int index = 0; index < minutes.length; index++) {
+            VegetableBouncer x = allWithTokens("");
+            Check.same("59: in " + minutes[index], x.pass(minutes[index]) + " " + x.tokenCount(),
+                    due[index] + " " + (8 - due[index]));
+        }
+        for (int inside = 0; inside <= 8; inside++) {
+            VegetableBouncer x = allWithTokens("door w 0 1 9;");
+            for (int guest = 0; guest < inside; guest++) {
+                x.enter(guest, 0);
+            }
+            Check.same("59: " + inside + " gave theirs away", x.pass(99) + " " + x.shownOut(),
+                    (8 - inside) + " " + inside);
+            Check.same("59: nothing is left", x.pass(999) + " " + x.shownOut(), "0 " + inside);
         }
     }
 }

@@ -145,7 +145,8 @@ final class ForecastEdgeTest {
         Check.same("42: open again", x.insideAfter(1379) + " " + x.insideAfter(1380) + " " + x.insideAfter(1440),
                 "0 0 0");
         VegetableBouncer y = Bouncers.loaded(inside(0, "0 23"));
-        Check.same("42: 23 hours", y.insideAfter(1379) + " " + y.insideAfter(1380) + " " + y.insideAfter(1440), "1 0 0");
+        Check.same("42: 23 hours", y.insideAfter(1379) + " " + y.insideAfter(1380) + " " + y.insideAfter(1440),
+                "1 0 0");
     }
 
     /** "A question about the future assumes that only minutes pass.": each is held against passing them. */

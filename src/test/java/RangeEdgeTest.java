@@ -218,7 +218,8 @@ final class RangeEdgeTest {
                 + "answer cid kale;enter ann west;pass 5;ask bob;pass 3;";
         Check.same("1: as if loaded", Told.state(new VegetableBouncer()), Told.state(Bouncers.loaded(first)));
         VegetableBouncer x = new VegetableBouncer();
-        for (String wrong : new String[] {"", "bouncer 31 1;", first + "oops", first.substring(0, first.length() - 1)}) {
+        String cut = first.substring(0, first.length() - 1);
+        for (String wrong : new String[] {"", "bouncer 31 1;", first + "oops", cut}) {
             x.truncate(0);
             Bouncers.type(x, wrong);
             Check.same("4: an error", x.load(), -7);

@@ -204,8 +204,8 @@ final class StatementEdgeTest {
         told("the tenth riddle", x.warpOf(9), 7);
         Check.noSuch("4: no eleventh riddle", () -> x.warpOf(10));
         Check.noSuch("4: nine riddles", () -> Bouncers.loaded(B + nine).warpOf(9));
-        for (String eleventh : new String[] {"riddle k 1;", "riddle a 1;", "riddle abcdefghi 1;", "riddle k 10;", "riddle;",
-            "riddle", "riddle 5", "riddle k 1"}) {
+        for (String eleventh : new String[] {"riddle k 1;", "riddle a 1;", "riddle abcdefghi 1;", "riddle k 10;",
+            "riddle;", "riddle", "riddle 5", "riddle k 1"}) {
             errorBehind(ten + eleventh, 5, ten.length());
         }
         errorBehind(ten + "riddles k 1;", 1, ten.length());
@@ -234,8 +234,8 @@ final class StatementEdgeTest {
         told("the fourth door", x.hoursOpen(3) + " " + x.roomLeft(3), "3 9");
         Check.noSuch("4: no fifth door", () -> x.isOpen(4));
         Check.noSuch("4: three doors", () -> Bouncers.loaded(B + three).isOpen(3));
-        for (String fifth : new String[] {"door e 1 1 1;", "door a 1 1 1;", "door abcde 1 1 1;", "door e 24 1 1;", "door;",
-            "door", "door 5"}) {
+        for (String fifth : new String[] {"door e 1 1 1;", "door a 1 1 1;", "door abcde 1 1 1;", "door e 24 1 1;",
+            "door;", "door", "door 5"}) {
             errorBehind(four + fifth, 5, four.length());
         }
         fine(B + four + "riddle a 1;guest e;hours d 5 5;");

@@ -20,6 +20,7 @@ final class TokenEdgeTest {
         textsOf600Bytes();
         firstTokenWithAnError();
         smallestOfSeveralCodes();
+        errorOfTheLatestLoad();
     }
 
     private static void error(String text, String due) {
@@ -118,7 +119,8 @@ final class TokenEdgeTest {
         errorBehind("pass " + "9".repeat(580) + ";", 2, 5);
         errorBehind("pass 1" + zeros + ";", 2, 5);
         String[] wrapping = {"2147483648", "2147483649", "4294967296", "4294967297", "4294968295", "8589934592",
-            "9223372036854775808", "18446744073709551616", "18446744073709551617", "340282366920938463463374607431768211457"};
+            "9223372036854775808", "18446744073709551616", "18446744073709551617",
+            "340282366920938463463374607431768211457"};
         for (String number : wrapping) {
             errorBehind("pass " + number + ";", 2, 5);
             error("bouncer " + number + " 1;", "2@8");
@@ -228,5 +230,30 @@ final class TokenEdgeTest {
         errorBehind("ask abcde;", 4, 4);
         errorBehind("pass abcde;", 1, 5);
         errorBehind("pass 5 1000;", 1, 7);
+    }
+
+    private static String loaded(VegetableBouncer x, String text) {
+        Bouncers.type(x, text);
+        return x.load() + " " + Told.error(x);
+    }
+
+    /** "the error code of the latest call of load, 0 if it succeeded or if there was none"; the offset -1 */
+    private static void errorOfTheLatestLoad() {
+        VegetableBouncer x = new VegetableBouncer();
+        Check.same("5, 6: no load", Told.error(x), "0@-1");
+        Check.same("5, 6: a load that succeeds", loaded(x, B), "0 0@-1");
+        Check.same("5, 6: an error at the first byte", loaded(x, "x"), "-7 1@0");
+        Check.same("5, 6: another error", loaded(x, "bouncer 31 1;"), "-7 2@8");
+        Check.same("5, 6: success again", loaded(x, B + "guest a;"), "1 0@-1");
+        Check.same("5, 6: an error once more", loaded(x, B + "guest a;guest a;"), "-7 3@26");
+        Check.same("5, 6: the highest code", loaded(x, B + "guest a;leave a;"), "-7 6@27");
+        x.append(1, 2, 3, 4, 5);
+        x.truncate(0);
+        x.save(0);
+        x.pass(5);
+        x.restore(0);
+        x.undo();
+        Check.refuses("52: refused", IllegalStateException.class, () -> x.ask(0));
+        Check.same("5, 6: other calls leave it", Told.error(x), "6@27");
     }
 }

@@ -17,6 +17,7 @@ final class UndoEdgeTest {
         whatIsNoChange();
         zeroToSixChanges();
         theSeventhIsNotUndone();
+        refusedCallsTakeNoPlaceOfTheSix();
         undoneOnesMakeRoom();
         undoBringsBackNoBufferErrorAndOutput();
         undoKeepsSavedStates();
@@ -78,7 +79,7 @@ final class UndoEdgeTest {
         return change.equals("load") ? UndoEdgeTest::readyToLoad : UndoEdgeTest::ready;
     }
 
-    /** "Undoing a change brings back everything but the input buffer, the error, the output text and the saved states." */
+    /** "Undoing a change brings back everything but the input buffer, the error, the output text ..." */
     private static void eachChangeIsUndoneWholly() {
         for (String change : CHANGES.keySet()) {
             VegetableBouncer x = maker(change).get();
@@ -177,6 +178,30 @@ final class UndoEdgeTest {
         }
     }
 
+    /** "A call that throws an exception changes nothing.": the oldest of six changes stays too. */
+    private static void refusedCallsTakeNoPlaceOfTheSix() {
+        for (int changes : new int[] {5, 6, 7}) {
+            Supplier<VegetableBouncer> maker = () -> withBuffer(changes);
+            Unchanged.refusedNow("52: refused", maker, x -> x.ask(0));
+            Unchanged.refusedArgument("53: refused", () -> emptied(changes), x -> x.answer(1));
+            Unchanged.refusedNow("53: refused", maker, x -> x.answer(0));
+            Unchanged.refusedNow("54: refused", maker, x -> x.enter(1, 0));
+            Unchanged.refusedNow("55: refused", maker, x -> x.leave(1));
+            Unchanged.refusedNumber("56: refused", maker, x -> x.forgive(3));
+            Unchanged.refusedArgument("57: refused", maker, x -> x.setWarp(0, 10));
+            Unchanged.refusedArgument("58: refused", maker, x -> x.setHours(0, 1, 24));
+            Unchanged.refusedArgument("59: refused", maker, x -> x.pass(1000));
+            Unchanged.refusedNow("61: refused", maker, x -> x.restore(0));
+            Unchanged.but(Set.of("error", "buffer"), "4: a load that fails", maker, x -> x.load());
+        }
+    }
+
+    private static VegetableBouncer emptied(int changes) {
+        VegetableBouncer x = withBuffer(changes);
+        x.truncate(0);
+        return x;
+    }
+
     private static VegetableBouncer undoneSix(int changes) {
         VegetableBouncer x = withBuffer(changes);
         for (int undone = 0; undone < 6; undone++) {
@@ -220,7 +245,8 @@ final class UndoEdgeTest {
         y.load();
         Check.same("62: no error", Told.error(y), "0@-1");
         y.undo();
-        Check.same("62: a load's buffer", Told.bufferLength(y) + " " + Told.error(y) + " " + Told.output(y), "0 0@-1 ann");
+        Check.same("62: a load's buffer", Told.bufferLength(y) + " " + Told.error(y) + " " + Told.output(y),
+                "0 0@-1 ann");
         VegetableBouncer z = withBuffer(2);
         z.undo();
         Check.same("62: an error before the change", Told.error(z), "1@0");
