@@ -29,7 +29,7 @@ public final class VegetableBouncer {
 
     private final StringBuilder input = new StringBuilder();
     private final StringBuilder output = new StringBuilder();
-    private final State state = firstState();
+    private final State state;
     /** A text is carried out here first, so that an error leaves the state alone. */
     private final State draft = new State();
     private final History history = new History();
@@ -39,15 +39,12 @@ public final class VegetableBouncer {
     private int errorOffset = NONE;
 
     public VegetableBouncer() {
+        State first = new State();
+        new SetupText(FIRST_TEXT, first).carryOut();
+        state = first;
         for (int slot = 0; slot < SLOTS; slot++) {
             slots[slot] = new State();
         }
-    }
-
-    private static State firstState() {
-        State first = new State();
-        new SetupText(FIRST_TEXT, first).carryOut();
-        return first;
     }
 
     // ---- The input buffer and the setup text ----
@@ -614,16 +611,18 @@ public final class VegetableBouncer {
             return failures >= MAX_FAILURES;
         }
 
+        /** Looked at from both ends, since the riddle is an index wherever there is one. */
         boolean hasRiddle() {
-            return riddle != NONE;
+            return riddle >= 0 && riddle < MAX_RIDDLES;
         }
 
         boolean hasToken() {
             return tokenUntil != NONE;
         }
 
+        /** Looked at from both ends, since the door is an index wherever there is one. */
         boolean isInside() {
-            return door != NONE;
+            return door >= 0 && door < MAX_DOORS;
         }
 
         void clearFailures() {
